@@ -2,13 +2,19 @@
 public final class Promise08ProofTest {
     public static void main(String[] args) {
         matchesThatDoNotStand();
+        leastAndGreatestDay();
         theEarliestDayCounts();
+        noneAndAsManyAsThereMayBe();
         skinsThatAreNotGood();
+        noSaleAndTwentySalesAreUndone();
         skinsThatAreGood();
         nobodyIsAnHeir();
-        bothKindsOfSales();
+        theFirstSaleInFaithCounts();
         nothingIsUndoneTwice();
         severalSeasons();
+        placesWithoutASkin();
+        heirsByEqualPoints();
+        whatAProofLeaves();
         wrongInputs();
         Checks.end("promise 8");
     }
@@ -30,6 +36,23 @@ public final class Promise08ProofTest {
         Checks.due("points", x.ranked(0, 1, 0), 0);
     }
 
+    private static void leastAndGreatestDay() {
+        SkinLeague x = Checks.league(3);
+        Checks.due("proof(2, 0) on day 0", x.proof(2, 0), 0);
+        Checks.outOfRange("proof(1, 1) on day 0", () -> x.proof(1, 1));
+        Checks.outOfRange("proof(1, -1) on day 0", () -> x.proof(1, -1));
+        Checks.notNow("clear(1)", () -> x.clear(1));
+        x.match(0, 1, 0);
+        x.pass(400);
+        x.match(0, 1, 0);
+        Checks.outOfRange("proof(0, 401) on day 400", () -> x.proof(0, 401));
+        Checks.due("proof(0, 400)", x.proof(0, 400), 1);
+        Checks.due("stands(0)", x.stands(0), true);
+        Checks.due("stands(1)", x.stands(1), false);
+        Checks.due("proof(0, 0)", x.proof(0, 0), 2);
+        Checks.due("clear(0)", x.clear(0), 0);
+    }
+
     private static void theEarliestDayCounts() {
         SkinLeague x = Checks.league(2);
         x.match(0, 1, 0);
@@ -39,10 +62,26 @@ public final class Promise08ProofTest {
         Checks.due("proof(0, 3)", x.proof(0, 3), 1);
         x.pass(1);
         Checks.due("proof(0, 4)", x.proof(0, 4), 1);
+        Checks.due("proof(0, 1) again", x.proof(0, 1), 1);
         Checks.due("stands(1)", x.stands(1), false);
         Checks.due("clear(0)", x.clear(0), 1);
         Checks.due("proof(0, 4) after it was cleared", x.proof(0, 4), 0);
-        Checks.due("clear(0)", x.clear(0), 4);
+        Checks.due("proof(0, 3)", x.proof(0, 3), 1);
+        Checks.due("clear(0)", x.clear(0), 3);
+    }
+
+    private static void noneAndAsManyAsThereMayBe() {
+        SkinLeague x = Checks.league(2);
+        Checks.due("proof(1, 0) without a match", x.proof(1, 0), 0);
+        x.room(0, 50);
+        x.room(1, 50);
+        for (int i = 0; i < 100; i++) {
+            x.match(i % 2, 1 - i % 2, i / 50);
+        }
+        Checks.due("proof(1, 0) of who won half of 100", x.proof(1, 0), 50);
+        Checks.due("proof(0, 0) of who won the others", x.proof(0, 0), 100);
+        x.clear(1);
+        Checks.due("proof(0, 0) again", x.proof(0, 0), 50);
     }
 
     private static void skinsThatAreNotGood() {
@@ -75,6 +114,27 @@ public final class Promise08ProofTest {
         Checks.due("money of 3", x.money(3), 153 + 7);
     }
 
+    private static void noSaleAndTwentySalesAreUndone() {
+        SkinLeague x = Checks.leagueWithSkins();
+        x.player();
+        x.player();
+        x.proof(3, 0);
+        x.proof(4, 0);
+        for (int i = 0; i < 20; i++) {
+            x.sell(1, i % 2 == 0 ? 3 : 4, 10000 - i);
+        }
+        Checks.due("money of 1", x.money(1), 10000);
+        Checks.due("the holder ahead of the proof", x.skinOf(1, 0), 4);
+        x.proof(0, 0);
+        for (int player = 0; player < 5; player++) {
+            Checks.due("money of " + player, x.money(player), 0);
+        }
+        Checks.due("the holder after twenty sales are undone", x.skinOf(1, 0), 2);
+        Checks.due("the sales", x.skinOf(1, 5), 0);
+        Checks.due("the holder after no sale is undone", x.skinOf(0, 0), 1);
+        Checks.due("the sales", x.skinOf(0, 5), 0);
+    }
+
     private static void skinsThatAreGood() {
         SkinLeague x = Checks.leagueWithSkins();
         x.sell(0, 2, 30);
@@ -85,6 +145,7 @@ public final class Promise08ProofTest {
         x.proof(0, 0);
         Checks.due("the sales", x.skinOf(0, 5), 4);
         Checks.due("the holder", x.skinOf(0, 0), 2);
+        Checks.due("it is good", x.skinOf(0, 6), 1);
         Checks.due("money of 0", x.money(0), money[0] - 30);
         Checks.due("money of 1", x.money(1), money[1] + 30);
         Checks.due("money of 2", x.money(2), money[2]);
@@ -109,14 +170,14 @@ public final class Promise08ProofTest {
         x.clear(0);
         Checks.due("the heir", x.skinOf(0, 1), 0);
         Checks.due("nobody pays", x.money(0), 30 - 30 - 4);
-        Checks.due("nobody holds the skins of other places", x.skinOf(1, 0), 1);
+        Checks.due("the holder of skin 1", x.skinOf(1, 0), 1);
         Checks.due("money of 1", x.money(1), 30);
         x.clear(1);
         Checks.due("the heir", x.skinOf(0, 1), 0);
         Checks.due("the holder of skin 1", x.skinOf(1, 0), 1);
     }
 
-    private static void bothKindsOfSales() {
+    private static void theFirstSaleInFaithCounts() {
         SkinLeague x = Checks.leagueWithSkins();
         x.player();
         x.proof(3, 0);
@@ -126,6 +187,8 @@ public final class Promise08ProofTest {
         x.proof(0, 0);
         Checks.due("the first sale in faith counts, not the first", x.money(0), 1000 - 30);
         Checks.due("money of 1", x.money(1), -200 + 30 + 30);
+        Checks.due("money of 2", x.money(2), -30);
+        Checks.due("money of 3", x.money(3), -1000 + 200);
     }
 
     private static void nothingIsUndoneTwice() {
@@ -139,10 +202,9 @@ public final class Promise08ProofTest {
         x.sell(0, 3, 5);
         Checks.due("the sales", x.skinOf(0, 5), 1);
         x.clear(0);
-        Checks.due("money of 0", x.money(0), 0);
-        Checks.due("money of 1", x.money(1), 0);
-        Checks.due("money of 2", x.money(2), 0);
-        Checks.due("money of 3", x.money(3), 0);
+        for (int player = 0; player < 4; player++) {
+            Checks.due("money of " + player, x.money(player), 0);
+        }
         x.proof(0, 0);
         Checks.due("money of 3", x.money(3), 0);
     }
@@ -169,21 +231,70 @@ public final class Promise08ProofTest {
         x.proof(0, 0);
         Checks.due("place 1 of season 0", x.skinOf(0, 1), -1);
         Checks.due("place 2 of season 0", x.skinOf(1, 1), -1);
+        Checks.noSuch("the season that is on has no skin", () -> x.skinOf(5, 0));
+    }
+
+    private static void placesWithoutASkin() {
+        SkinLeague x = Checks.league(3);
+        x.match(0, 1, 0);
+        x.match(2, 1, 0);
+        x.proof(2, 0);
+        x.end();
+        x.clear(2);
+        x.proof(0, 0);
+        Checks.due("place 1", x.skinOf(0, 1), 2);
+        Checks.due("place 2", x.skinOf(1, 1), 1);
+        Checks.noSuch("place 3", () -> x.skinOf(2, 1));
+        x.proof(2, 0);
+        Checks.due("place 1 without a match that stands", x.skinOf(0, 1), -1);
+        Checks.noSuch("place 3", () -> x.skinOf(2, 1));
+    }
+
+    private static void heirsByEqualPoints() {
+        SkinLeague x = Checks.league(6);
+        // With all matches 4 is the first; without those that 4 won 0, 2, 3 and 5 have 3 points each.
+        x.match(4, 1, 0);
+        x.match(4, 1, 0);
+        x.match(5, 0, 0);
+        x.match(3, 0, 0);
+        x.match(2, 0, 0);
+        x.end();
+        x.proof(4, 0);
+        Checks.due("place 1", x.skinOf(0, 1), 2);
+        Checks.due("place 2", x.skinOf(1, 1), 3);
+        Checks.due("place 3", x.skinOf(2, 1), 5);
+        Checks.due("place of who has more matches", x.ranked(0, 0, 2), 4);
+    }
+
+    private static void whatAProofLeaves() {
+        SkinLeague x = Checks.leagueWithSkins();
+        x.ban(1, 2);
+        x.room(0, 4);
+        x.proof(1, 0);
+        Checks.due("the day", x.ban(2, 0), 0);
+        Checks.notNow("a ban", () -> x.match(1, 0, 1));
+        Checks.due("the matches of today", x.room(0, 4), 3);
+        Checks.due("who lost what stands has points", x.ranked(0, 2, 0), 1);
+        Checks.due("the season that is on", x.end(), 0);
+        Checks.due("a skin whose heir stays", x.skinOf(0, 0), 0);
+        Checks.due("the holder of place 2", x.skinOf(1, 0), 1);
+        Checks.due("the holder of place 3", x.skinOf(2, 0), 2);
     }
 
     private static void wrongInputs() {
-        SkinLeague x = Checks.league(2);
-        x.match(0, 1, 0);
-        x.pass(3);
-        Checks.noSuch("proof(2, 0)", () -> x.proof(2, 0));
-        Checks.noSuch("proof(-1, 0)", () -> x.proof(-1, 0));
-        Checks.noSuch("proof(2, 9)", () -> x.proof(2, 9));
-        Checks.noSuch("proof(max, 0)", () -> x.proof(Integer.MAX_VALUE, 0));
-        Checks.outOfRange("proof(0, -1)", () -> x.proof(0, -1));
-        Checks.outOfRange("proof(0, 4) on day 3", () -> x.proof(0, 4));
-        Checks.outOfRange("proof(0, min)", () -> x.proof(0, Integer.MIN_VALUE));
-        Checks.due("stands(0)", x.stands(0), true);
-        Checks.notNow("clear(0)", () -> x.clear(0));
-        Checks.due("proof(0, 3)", x.proof(0, 3), 0);
+        int[] noPlayers = {-1, 5, 15, 16, Integer.MIN_VALUE, Integer.MAX_VALUE};
+        int[] noDays = {-1, 3, Integer.MIN_VALUE, Integer.MAX_VALUE};
+        for (int player : noPlayers) {
+            Refused.noSuch("proof", player, 0);
+            Refused.noSuch("proof", player, 2);
+            for (int since : noDays) {
+                Refused.noSuch("proof", player, since);
+            }
+        }
+        for (int since : noDays) {
+            Refused.outOfRange("proof", 0, since);
+            Refused.outOfRange("proof", 3, since);
+            Refused.outOfRange("proof", 4, since);
+        }
     }
 }
